@@ -19,16 +19,16 @@ public final class ExploreShares {
     // Far above what a level can need: it only makes the end of the loop over turns plain.
     private static final int MOST_TURNS = 1000000;
 
+    private final Search search;
     private final Net net;
     private final FailPlan plan;
     private final Crew crew;
-    private final Search search;
 
     public ExploreShares(int workers, int queue) {
-        net = new Net();
-        plan = new FailPlan();
-        crew = new Crew(1 + Math.floorMod(workers - 1, MOST_WORKERS));
-        search = new Search(net, plan, crew, new Queues(1 + Math.floorMod(queue - 1, MOST_QUEUED)));
+        search = new Search(1 + Math.floorMod(workers - 1, MOST_WORKERS), 1 + Math.floorMod(queue - 1, MOST_QUEUED));
+        net = search.net;
+        plan = search.plan;
+        crew = search.crew;
     }
 
     public int state() throws UnsupportedOperationException {
@@ -101,7 +101,7 @@ public final class ExploreShares {
         if (!net.has(state) || k < 0 || k > search.levels.levelOf[state]) {
             throw new IndexOutOfBoundsException("no such state on a way");
         }
-        return search.ways.stateAt(state, k);
+        return search.ways.stateAt(net, search.levels, state, k);
     }
 
     public int worker(int worker, int what) throws IndexOutOfBoundsException {
@@ -472,37 +472,30 @@ public final class ExploreShares {
 
     /** Shortest ways from state 0. */
     private static final class Ways {
-        private final Net net;
-        private final Levels levels;
         // The states from which a shortest way leads on to the goal.
         private final boolean[] leads = new boolean[MOST_STATES];
 
-        Ways(Net net, Levels levels) {
-            this.net = net;
-            this.levels = levels;
-        }
-
         /** State k of the way to goal; k is not above goal's level. */
-        int stateAt(int goal, int k) {
-            markWhatLeadsTo(goal);
+        int stateAt(Net net, Levels levels, int goal, int k) {
+            markWhatLeadsTo(net, levels, goal);
             int state = 0;
             for (int step = 0; step < k && state != NONE; step++) {
-                state = lowestBehind(state);
+                state = lowestBehind(net, levels, state);
             }
             return state;
         }
 
-        private void markWhatLeadsTo(int goal) {
+        private void markWhatLeadsTo(Net net, Levels levels, int goal) {
             fillFlags(leads, false);
             leads[goal] = true;
             for (int i = levels.begin[levels.levelOf[goal]] - 1; i >= 0; i--) {
                 int state = levels.order[i];
-                leads[state] = lowestBehind(state) != NONE;
+                leads[state] = lowestBehind(net, levels, state) != NONE;
             }
         }
 
         /** The lowest state one level on that leads to the goal; NONE, when there is none. */
-        private int lowestBehind(int state) {
+        private int lowestBehind(Net net, Levels levels, int state) {
             int lowest = NONE;
             for (int m = net.begin[state]; m < net.begin[state + 1]; m++) {
                 int to = net.target[m];
@@ -515,26 +508,23 @@ public final class ExploreShares {
         }
     }
 
-    /** A run through all levels, and what came of it. */
+    /** A run through all levels: what it goes by, and what came of it. */
     private static final class Search {
-        private final Net net;
-        private final FailPlan plan;
+        private final Net net = new Net();
+        private final FailPlan plan = new FailPlan();
         private final Crew crew;
         private final Queues queues;
         private final Lists lists = new Lists();
         private final Levels levels = new Levels();
         private final FailLog log = new FailLog();
-        private final Ways ways;
+        private final Ways ways = new Ways();
         private final int[] looks = new int[MOST_STATES];
         private final int[] busy = new int[MOST_WORKERS];
         private int x;
 
-        Search(Net net, FailPlan plan, Crew crew, Queues queues) {
-            this.net = net;
-            this.plan = plan;
-            this.crew = crew;
-            this.queues = queues;
-            ways = new Ways(net, levels);
+        Search(int workers, int room) {
+            crew = new Crew(workers);
+            queues = new Queues(room);
         }
 
         void forget() {
